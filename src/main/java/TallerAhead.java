@@ -933,7 +933,8 @@ public final class TallerAhead {
 
         private boolean takesJoining(int letter) {
             int rank = rankOf(letter);
-            if (rank == 0) {
+            // What stands ahead of an O joins no two.
+            if (rank == 0 || rank == PREFIX) {
                 return false;
             }
             // Two comparisons side by side are none of the grammar's.
