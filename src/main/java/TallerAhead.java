@@ -747,17 +747,12 @@ public final class TallerAhead {
                         push(named(-step, a, b, g, p, q));
                         break;
                     default:
-                        joinTwo(-step);
+                        int second = pop();
+                        push(joined(-step, pop(), second));
                         break;
                 }
             }
             return 0;
-        }
-
-        private void joinTwo(int sign) {
-            int second = pop();
-            int first = pop();
-            push(joined(sign, first, second));
         }
 
         private int endOfLine(int from) {
@@ -874,7 +869,8 @@ public final class TallerAhead {
             if (wantsOperand || open > 0) {
                 return size;
             }
-            endLine(';');
+            releaseDownTo(1);
+            addStep(-';');
             return NOT;
         }
 
@@ -963,15 +959,11 @@ public final class TallerAhead {
             if (open > 0 || (letter == '?' && isAsked)) {
                 return false;
             }
-            endLine(letter);
+            releaseDownTo(1);
+            addStep(-letter);
             isAsked = letter == '?';
             wantsOperand = true;
             return true;
-        }
-
-        private void endLine(int letter) {
-            releaseDownTo(1);
-            addStep(-letter);
         }
 
         /** Writes those that wait on top and bind at least so tightly: how many. A ( holds the others back. */
@@ -1288,6 +1280,7 @@ public final class TallerAhead {
         private static final int BARE = -1, HEAD = 5;
 
         private final int[] sorts;
+        /** Of ROWS; 0 where there is none. */
         private final int[] sizes;
         private final int[] held;
         private final long[][] elements;
@@ -1309,15 +1302,15 @@ public final class TallerAhead {
         }
 
         boolean isBare(int shelf) {
-            return sortOf(shelf) == BARE;
+            return !isShelf(shelf) || sorts[shelf] == BARE;
         }
 
         boolean isRow(int shelf) {
-            return sortOf(shelf) >= BYTES && sortOf(shelf) <= BOOLEANS;
+            return isShelf(shelf) && sorts[shelf] >= BYTES && sorts[shelf] <= BOOLEANS;
         }
 
         int sizeOf(int shelf) {
-            return isRow(shelf) ? sizes[shelf] : 0;
+            return isShelf(shelf) ? sizes[shelf] : 0;
         }
 
         int headOn(int shelf) {
@@ -1339,6 +1332,7 @@ public final class TallerAhead {
         void hold(int shelf, int body) {
             if (isShelf(shelf)) {
                 sorts[shelf] = body < 0 ? BARE : HEAD;
+                sizes[shelf] = 0;
                 held[shelf] = body;
             }
         }
