@@ -46,15 +46,16 @@ public final class TallerAhead {
     }
 
     public int people(int shelf, int i, int n) {
-        if (!shelves.isShelf(shelf) || i < 0 || n < 1 || n > MOST_PEOPLE) {
+        if (!shelves.isShelf(shelf) || n < 1 || n > MOST_PEOPLE) {
             return BAD;
         }
         int refusal = shelves.refusalOfBytes(shelf);
-        if (refusal == NOTHING_THERE) {
-            return 0;
-        }
-        if (refusal != ALL_RIGHT) {
+        if (refusal == OTHER_KIND) {
             return refusal;
+        }
+        // A missing row, and a place outside of the row, are no refusals: nobody comes from there.
+        if (refusal != ALL_RIGHT || i < 0) {
+            return 0;
         }
         int came = 0;
         for (int k = i; k < shelves.sizeOf(shelf) && came < n; k++) {
@@ -234,7 +235,7 @@ public final class TallerAhead {
     }
 
     public int gap(int shelf, int d, int what) {
-        if (!shelves.isShelf(shelf) || d < 0 || d > MOST_DISQUIET || what < 0 || what > 1) {
+        if (!shelves.isShelf(shelf) || what < 0 || what > 1) {
             return BAD;
         }
         int refusal = books.refusalToFill(shelf, queue);
@@ -245,10 +246,12 @@ public final class TallerAhead {
             return STATE;
         }
         int place = books.firstSmeared();
-        int number = d - books.sumOfNumbers();
-        if (number < 0 || number > place) {
+        int others = books.sumOfNumbers();
+        // No range is told for d: a DISQUIET that no row has is one that cannot be.
+        if (d < others || d > others + place) {
             return NOT;
         }
+        int number = d - others;
         if (what == 0) {
             return number;
         }

@@ -120,7 +120,7 @@ final class NaiveQueue {
     }
 
     int people(int shelf, int i, int n) {
-        if (shelf < 0 || shelf > 5 || i < 0 || n < 1 || n > 9) {
+        if (shelf < 0 || shelf > 5 || n < 1 || n > 9) {
             return BAD;
         }
         if (shelves[shelf] == null) {
@@ -130,7 +130,7 @@ final class NaiveQueue {
             return -12;
         }
         int came = 0;
-        while (came < n && i < row.length && person(row[i]) >= 0) {
+        while (came < n && i >= 0 && i < row.length && person(row[i]) >= 0) {
             came++;
             i++;
         }
@@ -406,7 +406,7 @@ final class NaiveQueue {
     }
 
     int gap(int shelf, int d, int what) {
-        if (shelf < 0 || shelf > 5 || d < 0 || d > 36 || what < 0 || what > 1) {
+        if (shelf < 0 || shelf > 5 || what < 0 || what > 1) {
             return BAD;
         }
         int refusal = refusalOfBook(shelf);
