@@ -224,7 +224,7 @@ public final class TallerAhead {
     }
 
     public int ways(int shelf, int d) {
-        if (!shelves.isShelf(shelf) || d < -1 || d > MOST_DISQUIET) {
+        if (!shelves.isShelf(shelf) || (d != -1 && !Books.isDisquiet(d))) {
             return BAD;
         }
         int refusal = books.refusalToFill(shelf, queue);
@@ -235,7 +235,7 @@ public final class TallerAhead {
     }
 
     public int gap(int shelf, int d, int what) {
-        if (!shelves.isShelf(shelf) || what < 0 || what > 1) {
+        if (!shelves.isShelf(shelf) || !Books.isDisquiet(d) || what < 0 || what > 1) {
             return BAD;
         }
         int refusal = books.refusalToFill(shelf, queue);
@@ -247,7 +247,6 @@ public final class TallerAhead {
         }
         int place = books.firstSmeared();
         int others = books.sumOfNumbers();
-        // No range is told for d: a DISQUIET that no row has is one that cannot be.
         if (d < others || d > others + place) {
             return NOT;
         }
@@ -260,14 +259,14 @@ public final class TallerAhead {
     }
 
     public int rows(int d) {
-        if (d < 0 || d > MOST_DISQUIET) {
+        if (!Books.isDisquiet(d)) {
             return BAD;
         }
         return books.rowsOf(queue.size(), d);
     }
 
     public int rth(int d, int r, int place) {
-        if (d < 0 || d > MOST_DISQUIET || r < 0 || !queue.isPlace(place)) {
+        if (!Books.isDisquiet(d) || r < 0 || !queue.isPlace(place)) {
             return BAD;
         }
         if (r >= books.rowsOf(queue.size(), d)) {
@@ -1406,6 +1405,10 @@ public final class TallerAhead {
             countRows();
         }
 
+        static boolean isDisquiet(int d) {
+            return d >= 0 && d <= MOST_DISQUIET;
+        }
+
         void open(int shelf, Line queue) {
             size = Math.min(shelves.sizeOf(shelf), Math.min(queue.size(), MOST_PEOPLE));
             for (int place = 0; place < size; place++) {
@@ -1520,7 +1523,7 @@ public final class TallerAhead {
         }
 
         int rowsOf(int people, int d) {
-            return people >= 0 && people <= MOST_PEOPLE && d >= 0 && d <= MOST_DISQUIET ? rowCounts[people][d] : 0;
+            return people >= 0 && people <= MOST_PEOPLE && isDisquiet(d) ? rowCounts[people][d] : 0;
         }
 
         /** There must be an r-th row of DISQUIET d. */

@@ -406,7 +406,7 @@ final class NaiveQueue {
     }
 
     int gap(int shelf, int d, int what) {
-        if (shelf < 0 || shelf > 5 || what < 0 || what > 1) {
+        if (shelf < 0 || shelf > 5 || d < 0 || d > 36 || what < 0 || what > 1) {
             return BAD;
         }
         int refusal = refusalOfBook(shelf);
