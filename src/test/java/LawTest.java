@@ -1,6 +1,6 @@
 import java.util.Random;
 
-/** Random TEXTS, right ones and spoilt ones: FAULT and what counts, as NaiveLaw has it; and texts told by hand. */
+/** Random TEXTS, right ones and spoilt ones: FAULT and what counts, as NaiveLaw has it (LawEdgesTest has those told by hand). */
 public final class LawTest {
     private static final String BYTES = "abgpq0123456789+-*/%<=>!&|()?;~ A";
     private static final int[] HEIGHTS = {40, 20, 30, 50, 10, 99};
@@ -14,7 +14,6 @@ public final class LawTest {
     }
 
     public static void main(String[] args) {
-        byHand();
         int texts = args.length > 0 ? Integer.parseInt(args[0]) : 40000;
         int right = 0;
         for (int k = 0; k < texts && wrong < 5; k++) {
@@ -66,64 +65,6 @@ public final class LawTest {
             due("number of " + q + " by " + text, x.of(q, 2), number);
         }
         return fault < 0;
-    }
-
-    private static void fault(String text, int place) {
-        TallerAhead x = new TallerAhead();
-        due("law " + text, tell(x, text), place < 0 ? 1 : -100 - place);
-    }
-
-    /** Faults counted by hand, so that not all hangs on NaiveLaw; -1: none. */
-    private static void byHand() {
-        fault("", 0);
-        fault("a", -1);
-        fault("x", 0);
-        fault("a>b", -1);
-        fault("a>b>g", 3);
-        fault("a>b&a=g|g<p", -1);
-        fault("(a>b)>g", -1);
-        fault("a>", 2);
-        fault("a>b;", 4);
-        fault(";a", 0);
-        fault("a;;b", 2);
-        fault("a?b", -1);
-        fault("a?b?g", 3);
-        fault("a?b;b?g;1", -1);
-        fault("a?", 2);
-        fault("?a", 0);
-        fault("(a?b)", 2);
-        fault("(a;b)", 2);
-        fault("(a", 2);
-        fault("a)", 1);
-        fault("()", 1);
-        fault("((a)", 4);
-        fault("1234", -1);
-        fault("12345", 4);
-        fault("0000", -1);
-        fault("00001", 4);
-        fault("1a", 1);
-        fault("a1", 1);
-        fault("a b", 1);
-        fault("a!b", 1);
-        fault("a~b", 1);
-        fault("~a", 0);
-        fault("a--b", -1);
-        fault("a-!-b", -1);
-        fault("a+*b", 2);
-        fault("a+", 2);
-        fault("!!!!!!a", -1);
-        fault("!!!!!!!a", 6);
-        fault("((((((a))))))", -1);
-        fault("(((((((a", 6);
-        fault("(!-(!-a))", -1);
-        fault("(!-(!-!a))", 6);
-        fault("(!-(!-a)&!(!a))", -1);
-        fault("!!!!!!a&!!!!!!b", -1);
-        fault("!!!!!(a)+(b)", -1);
-        fault("!!!!!((a))", 6);
-        fault("(((((!a-!b)))))", -1);
-        fault("(((((!a-!-b)))))", 9);
-        fault("a\u00ffb", 1);
     }
 
     // ---- texts by the grammar

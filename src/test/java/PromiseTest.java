@@ -1,49 +1,9 @@
 /** For each promise of the document: ordinary inputs, edges and wrong inputs, with answers worked out by hand. */
 public final class PromiseTest {
-    private static final int MIN = Integer.MIN_VALUE, MAX = Integer.MAX_VALUE;
-
-    private static int wrong;
-    private static int promise;
+    private static final int MIN = Checks.MIN, MAX = Checks.MAX;
 
     private static void due(String call, long got, long want) {
-        if (got != want) {
-            wrong++;
-            System.out.println("promise " + promise + ": " + call + " answered " + got + ", due is " + want);
-        }
-    }
-
-    private static TallerAhead street(int... heights) {
-        TallerAhead x = new TallerAhead();
-        for (int height : heights) {
-            x.person(height);
-        }
-        return x;
-    }
-
-    /** NUMBERS 0, 1, 1, 0, 4. */
-    private static TallerAhead five() {
-        return street(40, 20, 30, 50, 10);
-    }
-
-    private static void fill(TallerAhead x, int shelf, int... values) {
-        x.row(shelf, 0, values.length);
-        for (int i = 0; i < values.length; i++) {
-            x.put(shelf, i, values[i]);
-        }
-    }
-
-    private static int tell(TallerAhead x, String text) {
-        for (int k = 0; k < text.length(); k++) {
-            x.feed(text.charAt(k));
-        }
-        return x.law();
-    }
-
-    private static void queueIs(TallerAhead x, int... who) {
-        due("how many are in the queue", x.count(1), who.length);
-        for (int place = 0; place < who.length; place++) {
-            due("who stands at " + place, x.of(place, 10), who[place]);
-        }
+        Checks.due(call, got, want);
     }
 
     public static void main(String[] args) {
@@ -58,13 +18,10 @@ public final class PromiseTest {
             PromiseTest::trace, PromiseTest::keep, PromiseTest::row, PromiseTest::put, PromiseTest::element,
             PromiseTest::shift, PromiseTest::taken, PromiseTest::count,
         };
-        for (promise = 1; promise <= promises.length; promise++) {
-            promises[promise - 1].run();
+        for (int k = 0; k < promises.length; k++) {
+            Checks.edge("promise " + (k + 1), promises[k]);
         }
-        System.out.println(wrong == 0 ? promises.length + " promises are kept" : wrong + " answers are not as due");
-        if (wrong != 0) {
-            System.exit(1);
-        }
+        Checks.end("promises are kept");
     }
 
     private static void newObject() {
@@ -98,11 +55,11 @@ public final class PromiseTest {
         due("full", x.person(50 + 1), -3);
         due("bad ahead of full", x.person(0), -1);
         due("another one's ahead of full", x.person(99), -1);
-        queueIs(x, 0, 1, 2, 3, 4, 5, 6, 7, 8);
-        TallerAhead y = street(5, 6);
+        Checks.queueIs(x, 0, 1, 2, 3, 4, 5, 6, 7, 8);
+        TallerAhead y = Checks.street(5, 6);
         y.serve();
         due("third", y.person(7), 2);
-        queueIs(y, 1, 2);
+        Checks.queueIs(y, 1, 2);
         due("not kept for yesterday", y.count(2), 1);
     }
 
@@ -122,7 +79,7 @@ public final class PromiseTest {
         x.body(0);
         x.keep(2, 0);
         due("head", x.people(2, 0, 1), -12);
-        fill(x, 0, 10, 20, 10, 30, 0, 40, 100, 50, -3, 60, 70, 80, 90, 99, 1);
+        Checks.fill(x, 0, 10, 20, 10, 30, 0, 40, 100, 50, -3, 60, 70, 80, 90, 99, 1);
         due("ahead of the row", x.people(0, -1, 3), 0);
         due("far ahead of the row", x.people(0, MIN, 9), 0);
         due("nobody came", x.count(0), 0);
@@ -138,12 +95,12 @@ public final class PromiseTest {
         due("full", x.people(0, 12, 1), 0);
         due("count", x.count(0), 9);
         due("height", x.of(8, 0), 80);
-        queueIs(x, 0, 1, 2, 3, 4, 5, 6, 7, 8);
+        Checks.queueIs(x, 0, 1, 2, 3, 4, 5, 6, 7, 8);
     }
 
     private static void mend() {
-        TallerAhead x = five();
-        tell(x, "a>b");
+        TallerAhead x = Checks.five();
+        Checks.tell(x, "a>b");
         due("disquiet", x.disquiet(0), 6);
         due("mend", x.mend(4, 60), 10);
         due("height", x.of(4, 0), 60);
@@ -163,7 +120,7 @@ public final class PromiseTest {
     }
 
     private static void of() {
-        TallerAhead x = five();
+        TallerAhead x = Checks.five();
         due("height", x.of(3, 0), 50);
         due("place", x.of(3, 1), 3);
         due("number", x.of(4, 2), 4);
@@ -182,14 +139,14 @@ public final class PromiseTest {
         due("no place", x.of(4, 10), -1);
         due("no place", x.of(4, 11), -1);
         due("no place", x.of(-1, 12), -1);
-        tell(x, "a<b");
+        Checks.tell(x, "a<b");
         due("number by law", x.of(2, 11), 2);
         due("plain number", x.of(2, 12), 0);
         led();
     }
 
     private static void led() {
-        TallerAhead x = five();
+        TallerAhead x = Checks.five();
         due("greatest ahead of all deeds", x.of(4, 4), 0);
         x.swap(3);
         due("changed", x.of(4, 3), 1);
@@ -207,7 +164,7 @@ public final class PromiseTest {
         x.again(1);
         x.image();
         x.back();
-        tell(x, "1");
+        Checks.tell(x, "1");
         due("not by other ways", x.of(4, 3), 3);
         due("number by law", x.of(4, 2), 4);
         x.serve();
@@ -218,7 +175,7 @@ public final class PromiseTest {
         due("one put in had none", x.of(0, 3), 0);
         due("the greatest of one put in", x.of(0, 4), 4);
         due("unchanged by who is behind", x.of(4, 3), 4);
-        fill(x, 0, 0, 0, 0, 0, 0);
+        Checks.fill(x, 0, 0, 0, 0, 0, 0);
         x.restore(0);
         due("by restoring", x.of(0, 3), 1);
     }
@@ -240,76 +197,76 @@ public final class PromiseTest {
     }
 
     private static void law() {
-        TallerAhead x = five();
+        TallerAhead x = Checks.five();
         due("empty", x.law(), -100);
-        due("too early", tell(x, "a>"), -102);
+        due("too early", Checks.tell(x, "a>"), -102);
         due("still plain", x.disquiet(0), 6);
-        due("right", tell(x, "a<b"), 1);
+        due("right", Checks.tell(x, "a<b"), 1);
         due("by law", x.disquiet(0), 4);
-        due("wrong", tell(x, "a<b&&"), -104);
+        due("wrong", Checks.tell(x, "a<b&&"), -104);
         due("tape is empty then", x.count(3), 0);
         due("the law stays", x.disquiet(0), 4);
-        due("lines", tell(x, "g=1?a>b;g=2?1"), 1);
+        due("lines", Checks.tell(x, "g=1?a>b;g=2?1"), 1);
         due("by lines", x.disquiet(0), 2 + 3);
-        due("names", tell(x, "p=0&q=4"), 1);
+        due("names", Checks.tell(x, "p=0&q=4"), 1);
         due("by names", x.disquiet(0), 1);
-        due("by 0", tell(x, "a/0|a%0"), 1);
+        due("by 0", Checks.tell(x, "a/0|a%0"), 1);
         due("0", x.disquiet(0), 0);
-        due("below 0", tell(x, "-7/2=-3&-7%2=-1"), 1);
+        due("below 0", Checks.tell(x, "-7/2=-3&-7%2=-1"), 1);
         due("all", x.disquiet(0), 10);
-        due("wrapping", tell(x, "9999*9999*9999<0"), 1);
+        due("wrapping", Checks.tell(x, "9999*9999*9999<0"), 1);
         due("all", x.disquiet(0), 10);
-        due("binding", tell(x, "1+2*3=7&10-4-3=3&8/4*2=4|0"), 1);
+        due("binding", Checks.tell(x, "1+2*3=7&10-4-3=3&8/4*2=4|0"), 1);
         due("all", x.disquiet(0), 10);
-        due("a value counts", tell(x, "a-b-20"), 1);
+        due("a value counts", Checks.tell(x, "a-b-20"), 1);
         due("all but two", x.disquiet(0), 10 - 2);
-        due("1 and 0", tell(x, "(5|0)=1&(5&7)=1&!5=0&!0=1"), 1);
+        due("1 and 0", Checks.tell(x, "(5|0)=1&(5&7)=1&!5=0&!0=1"), 1);
         due("all", x.disquiet(0), 10);
-        due("no line", tell(x, "0?1;a<0?1"), 1);
+        due("no line", Checks.tell(x, "0?1;a<0?1"), 1);
         due("none", x.disquiet(0), 0);
         StringBuilder longest = new StringBuilder("a>b");
         while (longest.length() < 119) {
             longest.append("+0");
         }
-        due("119 bytes", tell(x, longest.toString()), 1);
+        due("119 bytes", Checks.tell(x, longest.toString()), 1);
         due("plainly", x.disquiet(0), 6);
-        due("120 bytes", tell(x, longest + "0"), 1);
+        due("120 bytes", Checks.tell(x, longest + "0"), 1);
         due("plainly", x.disquiet(0), 6);
     }
 
     private static void disquiet() {
-        TallerAhead x = five();
+        TallerAhead x = Checks.five();
         due("disquiet", x.disquiet(0), 6);
         due("plain", x.disquiet(1), 6);
         due("cost", x.disquiet(2), 12);
         due("what", x.disquiet(3), -1);
         due("what", x.disquiet(-1), -1);
-        tell(x, "1");
+        Checks.tell(x, "1");
         due("by law", x.disquiet(0), 10);
         due("plain still", x.disquiet(1), 6);
         due("cost by law", x.disquiet(2), 10 + 6 + 3 + 1);
-        tell(x, "g=2");
+        Checks.tell(x, "g=2");
         due("by places between", x.disquiet(0), 3);
         due("cost", x.disquiet(2), 3 + 2 + 1);
     }
 
     private static void swap() {
-        TallerAhead x = five();
+        TallerAhead x = Checks.five();
         due("swap", x.swap(0), 5);
-        queueIs(x, 1, 0, 2, 3, 4);
+        Checks.queueIs(x, 1, 0, 2, 3, 4);
         due("last two", x.swap(3), 4);
         due("no one behind", x.swap(4), -1);
         due("below", x.swap(-1), -1);
         due("far", x.swap(MAX), -1);
         due("far below", x.swap(MIN), -1);
         due("kept", x.count(2), 2);
-        due("one alone", street(5).swap(0), -1);
-        tell(x, "0");
+        due("one alone", Checks.street(5).swap(0), -1);
+        Checks.tell(x, "0");
         due("by law", x.swap(1), 0);
     }
 
     private static void enter() {
-        TallerAhead x = five();
+        TallerAhead x = Checks.five();
         due("in", x.enter(0, 0), -5);
         due("bad ahead of in", x.enter(0, 6), -1);
         x.leave(3);
@@ -318,38 +275,38 @@ public final class PromiseTest {
         due("nobody", x.enter(5, 0), -1);
         due("nobody", x.enter(-1, 0), -1);
         due("at the end", x.enter(3, 4), 5);
-        queueIs(x, 0, 1, 2, 4, 3);
+        Checks.queueIs(x, 0, 1, 2, 4, 3);
         x.leave(4);
         due("in the middle", x.enter(3, 1), 8);
-        queueIs(x, 0, 3, 1, 2, 4);
+        Checks.queueIs(x, 0, 3, 1, 2, 4);
         due("kept", x.count(2), 4);
     }
 
     private static void leave() {
-        TallerAhead x = five();
+        TallerAhead x = Checks.five();
         due("place", x.leave(5), -1);
         due("place", x.leave(-1), -1);
         due("leave", x.leave(1), 1);
-        queueIs(x, 0, 2, 3, 4);
+        Checks.queueIs(x, 0, 2, 3, 4);
         due("last", x.leave(3), 4);
         due("first", x.leave(0), 0);
-        queueIs(x, 2, 3);
+        Checks.queueIs(x, 2, 3);
         due("people stay", x.count(0), 5);
         due("kept", x.count(2), 3);
     }
 
     private static void serve() {
-        TallerAhead x = street(30, 10);
+        TallerAhead x = Checks.street(30, 10);
         due("first", x.serve(), 0);
-        queueIs(x, 1);
+        Checks.queueIs(x, 1);
         due("second", x.serve(), 1);
         due("empty", x.serve(), -5);
         due("kept", x.count(2), 2);
     }
 
     private static void grow() {
-        TallerAhead x = five();
-        tell(x, "a>b");
+        TallerAhead x = Checks.five();
+        Checks.tell(x, "a>b");
         due("disquiet", x.disquiet(0), 6);
         due("by 0", x.grow(4, 0), -1);
         due("by 21", x.grow(4, 21), -1);
@@ -362,7 +319,7 @@ public final class PromiseTest {
         due("past two", x.grow(4, 20), 43);
         due("kept", x.count(2), 2);
         due("no change to be undone", x.count(4), 2);
-        TallerAhead y = street(98, 99, 80);
+        TallerAhead y = Checks.street(98, 99, 80);
         due("past 99", y.grow(0, 1), -1);
         due("above 99", y.grow(1, 1), -1);
         due("nothing kept", y.count(2), 0);
@@ -376,7 +333,7 @@ public final class PromiseTest {
     }
 
     private static void restore() {
-        TallerAhead x = five();
+        TallerAhead x = Checks.five();
         due("shelf", x.restore(6), -1);
         due("shelf", x.restore(-1), -1);
         due("nothing", x.restore(0), -11);
@@ -385,31 +342,31 @@ public final class PromiseTest {
         x.body(0);
         x.keep(0, 0);
         due("head", x.restore(0), -12);
-        fill(x, 0, 0, 1, 2, 3);
+        Checks.fill(x, 0, 0, 1, 2, 3);
         due("too short", x.restore(0), -5);
-        fill(x, 0, 0, 1, 2, 3, 4, 0);
+        Checks.fill(x, 0, 0, 1, 2, 3, 4, 0);
         due("too long", x.restore(0), -5);
-        fill(x, 0, 0, 1, -1, 3, 4);
+        Checks.fill(x, 0, 0, 1, -1, 3, 4);
         due("smeared", x.restore(0), -5);
-        fill(x, 0, 0, 2, 0, 3, 4);
+        Checks.fill(x, 0, 0, 2, 0, 3, 4);
         due("false", x.restore(0), -5);
         due("nothing kept", x.count(2), 0);
-        fill(x, 0, 0, 1, 2, 3, 4);
+        Checks.fill(x, 0, 0, 1, 2, 3, 4);
         due("restore", x.restore(0), 1);
-        queueIs(x, 3, 0, 2, 1, 4);
+        Checks.queueIs(x, 3, 0, 2, 1, 4);
         due("kept", x.count(2), 1);
-        tell(x, "a<b");
-        fill(x, 0, 0, 0, 1, 0, 2);
+        Checks.tell(x, "a<b");
+        Checks.fill(x, 0, 0, 0, 1, 0, 2);
         due("plain, whatever the law", x.restore(0), 1);
         for (int place = 0; place < 5; place++) {
             due("plain number", x.of(place, 12), x.element(0, place));
         }
         x.again(2);
-        queueIs(x, 0, 1, 2, 3, 4);
+        Checks.queueIs(x, 0, 1, 2, 3, 4);
     }
 
     private static void was() {
-        TallerAhead x = five();
+        TallerAhead x = Checks.five();
         due("none", x.was(1, 0), -1);
         x.serve();
         x.swap(0);
@@ -422,7 +379,7 @@ public final class PromiseTest {
         due("3", x.was(3, 0), -1);
         due("far", x.was(MAX, 0), -1);
         due("far below", x.was(MIN, 0), -1);
-        TallerAhead y = street(10, 20, 30);
+        TallerAhead y = Checks.street(10, 20, 30);
         for (int k = 1; k <= 14; k++) {
             y.swap(k % 2);
             due("kept", y.count(2), Math.min(k, 12));
@@ -436,7 +393,7 @@ public final class PromiseTest {
     }
 
     private static void again() {
-        TallerAhead x = five();
+        TallerAhead x = Checks.five();
         due("none", x.again(1), -1);
         x.serve();
         x.swap(0);
@@ -445,112 +402,112 @@ public final class PromiseTest {
         due("4", x.again(4), -1);
         due("far below", x.again(MIN), -1);
         due("two back", x.again(2), 1);
-        queueIs(x, 1, 2, 3, 4);
+        Checks.queueIs(x, 1, 2, 3, 4);
         due("the last", x.again(1), 0);
-        queueIs(x, 0, 1, 2, 3, 4);
+        Checks.queueIs(x, 0, 1, 2, 3, 4);
         due("none left", x.again(1), -1);
         x.grow(4, 7);
         x.person(77);
         due("as it was", x.again(1), 0);
-        queueIs(x, 0, 1, 2, 3, 4);
+        Checks.queueIs(x, 0, 1, 2, 3, 4);
         due("heights stay", x.of(4, 0), 17);
         due("people stay", x.count(0), 6);
         for (int k = 0; k < 20; k++) {
             x.swap(0);
         }
         due("round the ring", x.again(12), 0);
-        queueIs(x, 0, 1, 2, 3, 4);
+        Checks.queueIs(x, 0, 1, 2, 3, 4);
     }
 
     private static void book() {
-        TallerAhead x = five();
+        TallerAhead x = Checks.five();
         due("shelf", x.book(6, 0), -1);
         due("what", x.book(0, 2), -1);
         due("what", x.book(0, -1), -1);
         due("nothing", x.book(0, 0), -11);
         x.row(0, 4, 5);
         due("booleans", x.book(0, 0), -12);
-        fill(x, 0, 0, 1, 1, 0, 4, 99);
+        Checks.fill(x, 0, 0, 1, 1, 0, 4, 99);
         due("none false, what is behind does not count", x.book(0, 0), -2);
         due("judged", x.book(0, 1), -2);
-        fill(x, 0, 0, 1, 1);
+        Checks.fill(x, 0, 0, 1, 1);
         due("ends before", x.book(0, 0), -2);
         due("ends before", x.book(0, 1), -2);
-        fill(x, 0, 0, -1, -2, 9, 4);
+        Checks.fill(x, 0, 0, -1, -2, 9, 4);
         due("below -1", x.book(0, 0), 2);
         due("smeared is so", x.book(0, 1), 2);
-        fill(x, 0, 1, 1, 1, 0, 4);
+        Checks.fill(x, 0, 1, 1, 1, 0, 4);
         due("more than the place", x.book(0, 0), 0);
-        fill(x, 0, 0, 1, 2, 0, 4);
+        Checks.fill(x, 0, 0, 1, 2, 0, 4);
         due("not false", x.book(0, 0), -2);
         due("not so", x.book(0, 1), 2);
-        tell(x, "1");
+        Checks.tell(x, "1");
         due("by law", x.book(0, 1), 3);
     }
 
     private static void restored() {
-        TallerAhead x = five();
+        TallerAhead x = Checks.five();
         due("shelf", x.restored(6, 0), -1);
         due("place ahead of nothing", x.restored(0, 5), -1);
         due("place", x.restored(0, -1), -1);
         due("nothing", x.restored(0, 0), -11);
         x.row(0, 3, 5);
         due("longs", x.restored(0, 0), -12);
-        fill(x, 0, 0, 0, 0, 0, 4, 0);
+        Checks.fill(x, 0, 0, 0, 0, 0, 4, 0);
         due("too long", x.restored(0, 0), -5);
-        fill(x, 0, 0, 0, 0, 0);
+        Checks.fill(x, 0, 0, 0, 0, 0);
         due("too short", x.restored(0, 0), -5);
-        fill(x, 0, 0, 0, 2, 0, -1);
+        Checks.fill(x, 0, 0, 0, 2, 0, -1);
         due("smeared", x.restored(0, 0), -5);
-        fill(x, 0, 0, 0, 2, 0, 4);
+        Checks.fill(x, 0, 0, 0, 2, 0, 4);
         int[] due = {2, 0, 1, 3, 4};
         for (int place = 0; place < 5; place++) {
             due("restored", x.restored(0, place), due[place]);
         }
-        queueIs(x, 0, 1, 2, 3, 4);
+        Checks.queueIs(x, 0, 1, 2, 3, 4);
         x.leave(0);
         due("of those who are in now", x.restored(0, 0), -5);
-        fill(x, 0, 0, 1, 2, 3);
+        Checks.fill(x, 0, 0, 1, 2, 3);
         due("tallest first", x.restored(0, 0), 3);
         due("smallest last", x.restored(0, 3), 4);
     }
 
     private static void ways() {
-        TallerAhead x = five();
+        TallerAhead x = Checks.five();
         due("shelf", x.ways(-1, 0), -1);
         due("d", x.ways(0, -2), -1);
         due("d", x.ways(0, 37), -1);
         due("nothing", x.ways(0, 36), -11);
         x.row(0, 1, 5);
         due("shorts", x.ways(0, -1), -12);
-        fill(x, 0, 0, -1, -1, 1);
+        Checks.fill(x, 0, 0, -1, -1, 1);
         due("fewer", x.ways(0, -1), -5);
-        fill(x, 0, 0, 2, -1, 1, -1);
+        Checks.fill(x, 0, 0, 2, -1, 1, -1);
         due("false", x.ways(0, -1), -5);
-        fill(x, 0, -1, -1, -1, -1, -1, -9, -1);
+        Checks.fill(x, 0, -1, -1, -1, -1, -1, -9, -1);
         due("all smeared", x.ways(0, -1), 120);
         due("of 5", x.ways(0, 5), 22);
         due("of 10", x.ways(0, 10), 1);
         due("of 11", x.ways(0, 11), 0);
-        fill(x, 0, 0, 1, -1, 3, -1);
+        Checks.fill(x, 0, 0, 1, -1, 3, -1);
         due("two smeared", x.ways(0, -1), 15);
         due("least", x.ways(0, 4), 1);
         due("below", x.ways(0, 3), 0);
         due("between", x.ways(0, 6), 3);
         due("most", x.ways(0, 10), 1);
-        fill(x, 0, 0, 1, 1, 3, 2);
+        Checks.fill(x, 0, 0, 1, 1, 3, 2);
         due("none smeared", x.ways(0, -1), 1);
         due("its own", x.ways(0, 7), 1);
         due("another", x.ways(0, 6), 0);
-        TallerAhead y = street(1, 2, 3, 4, 5, 6, 7, 8, 9);
-        fill(y, 5, -1, -1, -1, -1, -1, -1, -1, -1, -1);
+        TallerAhead y = Checks.street(1, 2, 3, 4, 5, 6, 7, 8, 9);
+        Checks.fill(y, 5, -1, -1, -1, -1, -1, -1, -1, -1, -1);
         due("9!", y.ways(5, -1), 362880);
         due("of 18", y.ways(5, 18), 29228);
         due("of 36", y.ways(5, 36), 1);
     }
 
     private static void gap() {
-        TallerAhead x = five();
+        TallerAhead x = Checks.five();
         due("shelf", x.gap(6, 0, 0), -1);
         due("what", x.gap(0, 0, 2), -1);
         due("what", x.gap(0, 0, -1), -1);
@@ -562,16 +519,16 @@ public final class PromiseTest {
         x.row(0, 1, 5);
         due("shorts", x.gap(0, 6, 0), -12);
         due("no DISQUIET ahead of shorts", x.gap(0, -1, 0), -1);
-        fill(x, 0, 0, 1, -1, 0);
+        Checks.fill(x, 0, 0, 1, -1, 0);
         due("fewer", x.gap(0, 6, 0), -5);
-        fill(x, 0, 0, 2, -1, 0, 4);
+        Checks.fill(x, 0, 0, 2, -1, 0, 4);
         due("false", x.gap(0, 6, 0), -5);
-        fill(x, 0, 0, 1, 1, 0, 4);
+        Checks.fill(x, 0, 0, 1, 1, 0, 4);
         due("none smeared", x.gap(0, 6, 0), -5);
-        fill(x, 0, 0, 1, -1, -1, 4);
+        Checks.fill(x, 0, 0, 1, -1, -1, 4);
         due("two smeared", x.gap(0, 6, 0), -5);
         due("no DISQUIET ahead of two smeared", x.gap(0, 37, 0), -1);
-        fill(x, 0, 0, 1, -1, 0, 4);
+        Checks.fill(x, 0, 0, 1, -1, 0, 4);
         due("below", x.gap(0, 4, 0), -2);
         due("least", x.gap(0, 5, 0), 0);
         due("most", x.gap(0, 7, 0), 2);
@@ -585,10 +542,10 @@ public final class PromiseTest {
         due("who", x.gap(0, 6, 1), 2);
         due("who", x.gap(0, 7, 1), 1);
         due("the book stays", x.element(0, 2), -1);
-        fill(x, 0, 0, 1, -1, 0, 4, -1);
+        Checks.fill(x, 0, 0, 1, -1, 0, 4, -1);
         due("what is behind does not count", x.gap(0, 6, 1), 2);
-        TallerAhead y = street(1, 2, 3, 4, 5, 6, 7, 8, 9);
-        fill(y, 0, 0, 1, 2, 3, 4, 5, 6, 7, -1);
+        TallerAhead y = Checks.street(1, 2, 3, 4, 5, 6, 7, 8, 9);
+        Checks.fill(y, 0, 0, 1, 2, 3, 4, 5, 6, 7, -1);
         due("36", y.gap(0, 36, 0), 8);
         due("who of 36", y.gap(0, 36, 1), 0);
     }
@@ -600,20 +557,20 @@ public final class PromiseTest {
         due("below", x.rows(-1), -1);
         due("above", x.rows(37), -1);
         int[] byFour = {1, 3, 5, 6, 5, 3, 1, 0};
-        TallerAhead y = street(4, 3, 2, 1);
+        TallerAhead y = Checks.street(4, 3, 2, 1);
         for (int d = 0; d < byFour.length; d++) {
             due("four, " + d, y.rows(d), byFour[d]);
         }
         due("36", y.rows(36), 0);
         y.serve();
         due("three", y.rows(1), 2);
-        TallerAhead z = street(1, 2, 3, 4, 5, 6, 7, 8, 9);
+        TallerAhead z = Checks.street(1, 2, 3, 4, 5, 6, 7, 8, 9);
         due("nine, 18", z.rows(18), 29228);
         due("nine, 36", z.rows(36), 1);
     }
 
     private static void rth() {
-        TallerAhead x = street(30, 10, 20);
+        TallerAhead x = Checks.street(30, 10, 20);
         due("d", x.rth(-1, 0, 0), -1);
         due("d", x.rth(37, 0, 0), -1);
         due("r", x.rth(0, -1, 0), -1);
@@ -631,36 +588,36 @@ public final class PromiseTest {
                 due("row " + k, x.rth(disquiet[k], rank[k], place), due[k][place]);
             }
         }
-        tell(x, "1");
+        Checks.tell(x, "1");
         due("plain, whatever the law", x.rth(2, 1, 0), 0);
-        TallerAhead y = street(1, 2, 3, 4, 5, 6, 7, 8, 9);
+        TallerAhead y = Checks.street(1, 2, 3, 4, 5, 6, 7, 8, 9);
         due("36", y.rth(36, 0, 0), 8);
         due("only one of 36", y.rth(36, 1, 0), -2);
     }
 
     private static void calm() {
-        TallerAhead x = five();
+        TallerAhead x = Checks.five();
         due("places", x.calm(0), 4);
         due("disquiet then", x.calm(1), 1);
         due("what", x.calm(2), -1);
         due("what", x.calm(-1), -1);
-        queueIs(x, 0, 1, 2, 3, 4);
+        Checks.queueIs(x, 0, 1, 2, 3, 4);
         due("no deed", x.count(2), 0);
-        due("calm already", street(1, 2, 3).calm(0), -2);
-        due("calm already", street(1, 2, 3).calm(1), -2);
-        TallerAhead y = street(20, 10, 40, 30);
+        due("calm already", Checks.street(1, 2, 3).calm(0), -2);
+        due("calm already", Checks.street(1, 2, 3).calm(1), -2);
+        TallerAhead y = Checks.street(20, 10, 40, 30);
         due("of like ones the first", y.calm(0), 1);
         due("then", y.calm(1), 1);
-        tell(y, "p=3&q=2|p=2&q=1");
+        Checks.tell(y, "p=3&q=2|p=2&q=1");
         due("disquiet by law", y.disquiet(0), 0);
         due("not", y.calm(0), -2);
-        tell(y, "p=2&q=3");
+        Checks.tell(y, "p=2&q=3");
         due("by law", y.calm(0), 3);
         due("then", y.calm(1), 0);
     }
 
     private static void where() {
-        TallerAhead x = street(10, 30, 40, 20);
+        TallerAhead x = Checks.street(10, 30, 40, 20);
         due("in", x.where(3, 0), -5);
         due("bad ahead of in", x.where(3, 4), -1);
         x.leave(3);
@@ -671,17 +628,17 @@ public final class PromiseTest {
         due("what", x.where(3, -1), -1);
         due("nobody", x.where(4, 0), -1);
         due("nobody", x.where(-1, 0), -1);
-        queueIs(x, 0, 1, 2);
-        tell(x, "p=3");
+        Checks.queueIs(x, 0, 1, 2);
+        Checks.tell(x, "p=3");
         due("at the end", x.where(3, 0), 3);
         due("disquiet then", x.where(3, 2), 0);
-        tell(x, "1");
+        Checks.tell(x, "1");
         due("of like ones the least", x.where(3, 0), 0);
         due("disquiet then", x.where(3, 2), 6);
     }
 
     private static void growth() {
-        TallerAhead x = street(70, 10, 9, 80);
+        TallerAhead x = Checks.street(70, 10, 9, 80);
         due("nobody", x.growth(4), -1);
         due("nobody", x.growth(-1), -1);
         due("front", x.growth(0), 0);
@@ -691,55 +648,55 @@ public final class PromiseTest {
         x.leave(3);
         due("out", x.growth(3), -5);
         due("no deed", x.of(1, 0), 10);
-        tell(x, "b<69&p=0");
+        Checks.tell(x, "b<69&p=0");
         due("by law", x.growth(1), 59);
-        tell(x, "b%7");
+        Checks.tell(x, "b%7");
         due("others do not hinder", x.growth(2), 5);
-        TallerAhead y = street(1, 90);
-        tell(y, "b<150");
+        TallerAhead y = Checks.street(1, 90);
+        Checks.tell(y, "b<150");
         due("past 99 in thought", y.growth(1), 60);
     }
 
     private static void far() {
-        TallerAhead x = five();
+        TallerAhead x = Checks.five();
         due("shelf", x.far(6), -1);
         due("nothing", x.far(0), -11);
         x.row(0, 4, 5);
         due("booleans", x.far(0), -12);
-        fill(x, 0, 0, 1, 2, 3);
+        Checks.fill(x, 0, 0, 1, 2, 3);
         due("fewer", x.far(0), -5);
-        fill(x, 0, 0, 1, 2, 3, 4, 4);
+        Checks.fill(x, 0, 0, 1, 2, 3, 4, 4);
         due("more", x.far(0), -5);
-        fill(x, 0, 0, 1, 2, 3, 3);
+        Checks.fill(x, 0, 0, 1, 2, 3, 3);
         due("twice", x.far(0), -5);
-        fill(x, 0, 0, 1, 2, 3, 5);
+        Checks.fill(x, 0, 0, 1, 2, 3, 5);
         due("nobody", x.far(0), -5);
-        fill(x, 0, 0, 1, 2, 3, -1);
+        Checks.fill(x, 0, 0, 1, 2, 3, -1);
         due("nobody", x.far(0), -5);
-        fill(x, 0, 0, 1, 2, 3, 4);
+        Checks.fill(x, 0, 0, 1, 2, 3, 4);
         due("as it is", x.far(0), 0);
-        fill(x, 0, 4, 3, 2, 1, 0);
+        Checks.fill(x, 0, 4, 3, 2, 1, 0);
         due("turned round", x.far(0), 10);
-        fill(x, 0, 1, 2, 3, 4, 0);
+        Checks.fill(x, 0, 1, 2, 3, 4, 0);
         due("first to the end", x.far(0), 4);
         x.leave(0);
         due("one who is out", x.far(0), -5);
-        fill(x, 0, 2, 1, 4, 3);
+        Checks.fill(x, 0, 2, 1, 4, 3);
         due("two pairs", x.far(0), 2);
     }
 
     private static void sorted() {
         due("nobody", new TallerAhead().sorted(), 0);
-        TallerAhead x = five();
+        TallerAhead x = Checks.five();
         due("sorted", x.sorted(), 6);
-        tell(x, "1");
+        Checks.tell(x, "1");
         due("whatever the law", x.sorted(), 6);
-        due("turned round", street(9, 8, 7, 6, 5, 4, 3, 2, 1).sorted(), 36);
-        due("in order", street(1, 2, 3).sorted(), 0);
+        due("turned round", Checks.street(9, 8, 7, 6, 5, 4, 3, 2, 1).sorted(), 36);
+        due("in order", Checks.street(1, 2, 3).sorted(), 0);
     }
 
     private static void right() {
-        TallerAhead x = five();
+        TallerAhead x = Checks.five();
         due("who may be first", x.right(-2), 9);
         due("orders", x.right(-1), 4);
         int[] due = {0, 3, 1, 2, 4};
@@ -749,21 +706,21 @@ public final class PromiseTest {
         due("k", x.right(5), -1);
         due("k", x.right(-3), -1);
         due("k", x.right(MIN), -1);
-        TallerAhead y = street(1, 2, 3, 4, 5, 6, 7, 8, 9);
+        TallerAhead y = Checks.street(1, 2, 3, 4, 5, 6, 7, 8, 9);
         due("all may be first", y.right(-2), 511);
         due("9!", y.right(-1), 362880);
         due("by numbers", y.right(8), 8);
         y.serve();
         due("bits of people", y.right(-2), 510);
-        TallerAhead z = street(9, 8, 7);
+        TallerAhead z = Checks.street(9, 8, 7);
         due("one by one", z.right(-1), 1);
         due("the tallest", z.right(-2), 1);
-        tell(z, "a>b&g=1");
+        Checks.tell(z, "a>b&g=1");
         due("by law", z.right(-1), 2);
     }
 
     private static void mixed() {
-        TallerAhead x = five();
+        TallerAhead x = Checks.five();
         due("0 times", x.mixed(5, 0, -2), -1);
         due("51 times", x.mixed(5, 51, -2), -1);
         due("nobody", x.mixed(5, 1, 5), -1);
@@ -776,42 +733,42 @@ public final class PromiseTest {
             firsts += x.mixed(-77, 50, who);
         }
         due("somebody is first each time", firsts, 50);
-        queueIs(x, 0, 1, 2, 3, 4);
+        Checks.queueIs(x, 0, 1, 2, 3, 4);
         x.leave(3);
         due("one who is out", x.mixed(5, 20, 3), 0);
-        tell(x, "1");
+        Checks.tell(x, "1");
         due("by law", x.mixed(5, 20, -2), 120);
         due("never less", x.mixed(5, 20, -1), 0);
-        TallerAhead y = street(10);
+        TallerAhead y = Checks.street(10);
         due("alone", y.mixed(1, 50, 0), 50);
         due("nobody yet", new TallerAhead().mixed(1, 50, 0), -1);
         due("nothing to mix", new TallerAhead().mixed(1, 50, -2), 0);
         // z = 12345, and 12345 >>> 8 = 48: even, so the two change.
-        TallerAhead z = street(10, 20);
+        TallerAhead z = Checks.street(10, 20);
         due("one draw", z.mixed(0, 1, 1), 1);
         due("its disquiet", z.mixed(0, 1, -2), 1);
     }
 
     private static void image() {
-        TallerAhead x = five();
+        TallerAhead x = Checks.five();
         due("image", x.image(), 5);
         x.serve();
         due("another", x.image(), 4);
         x.serve();
         due("back to the latest", x.back(), 4);
-        queueIs(x, 1, 2, 3, 4);
+        Checks.queueIs(x, 1, 2, 3, 4);
         due("empty", new TallerAhead().image(), 0);
     }
 
     private static void back() {
-        TallerAhead x = five();
+        TallerAhead x = Checks.five();
         due("none", x.back(), -5);
         x.image();
         x.serve();
         x.swap(0);
         x.person(77);
         due("back", x.back(), 5);
-        queueIs(x, 0, 1, 2, 3, 4);
+        Checks.queueIs(x, 0, 1, 2, 3, 4);
         due("nothing kept by it", x.count(2), 2);
         x.leave(4);
         due("again", x.back(), 5);
@@ -822,8 +779,8 @@ public final class PromiseTest {
     }
 
     private static void undo() {
-        TallerAhead x = five();
-        tell(x, "a>b");
+        TallerAhead x = Checks.five();
+        Checks.tell(x, "a>b");
         due("none", x.undo(), -5);
         x.mend(4, 60);
         x.mend(4, 70);
@@ -846,7 +803,7 @@ public final class PromiseTest {
         x.person(10);
         due("another one's", x.undo(), -5);
         due("stays", x.count(4), 1);
-        TallerAhead y = street(50);
+        TallerAhead y = Checks.street(50);
         for (int k = 1; k <= 45; k++) {
             y.mend(0, k);
         }
@@ -859,7 +816,7 @@ public final class PromiseTest {
     }
 
     private static void redo() {
-        TallerAhead x = five();
+        TallerAhead x = Checks.five();
         due("none", x.redo(), -5);
         x.mend(4, 60);
         x.mend(4, 70);
@@ -885,7 +842,7 @@ public final class PromiseTest {
         due("by growing", x.of(5, 0), 71);
         due("done again all the same", x.redo(), 0);
         due("height", x.of(5, 0), 52);
-        TallerAhead y = street(91, 92, 93);
+        TallerAhead y = Checks.street(91, 92, 93);
         for (int k = 1; k <= 44; k++) {
             y.mend(k % 3, k);
         }
@@ -1038,7 +995,7 @@ public final class PromiseTest {
         x.body(0);
         x.keep(0, 0);
         due("head", x.element(0, 0), Long.MIN_VALUE);
-        fill(x, 0, 5, -6);
+        Checks.fill(x, 0, 5, -6);
         due("first", x.element(0, 0), 5);
         due("second", x.element(0, 1), -6);
         due("behind", x.element(0, 2), Long.MIN_VALUE);
@@ -1049,7 +1006,7 @@ public final class PromiseTest {
         TallerAhead x = new TallerAhead();
         due("shelf", x.shift(6, 0, 0, 0, 0), -1);
         due("shelf", x.shift(0, 0, -1, 0, 0), -1);
-        fill(x, 0, 1, 2, 3, 4, 5);
+        Checks.fill(x, 0, 1, 2, 3, 4, 5);
         due("nothing", x.shift(0, 0, 1, 0, 0), -11);
         due("nothing", x.shift(1, 0, 0, 0, 0), -11);
         x.body(0);
@@ -1106,7 +1063,7 @@ public final class PromiseTest {
     }
 
     private static void count() {
-        TallerAhead x = five();
+        TallerAhead x = Checks.five();
         x.serve();
         x.swap(0);
         x.feed(97);
