@@ -857,7 +857,7 @@ public final class TallerAhead {
             while (at < size) {
                 int letter = tape[at];
                 if (wantsOperand && isDigit(letter)) {
-                    at += readNumber(tape, at, size);
+                    at += Math.max(readNumber(tape, at, size), 1);
                 } else if (wantsOperand ? takesOperand(letter) : takesSign(letter)) {
                     at++;
                 } else {

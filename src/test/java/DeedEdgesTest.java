@@ -386,6 +386,16 @@ public final class DeedEdgesTest {
         due("kept all the same", x.count(2), 6);
         x.swap(0);
         due("unchanged who stay at the end", x.of(3, 3), 0);
+        TallerAhead y = Checks.street(10, 20, 30);
+        y.swap(0);
+        due("from the front", y.of(0, 3), 1);
+        due("to the front, with 0 ahead of it and behind it", y.of(1, 3), 0);
+        y.swap(1);
+        due("from the middle to the end", y.of(0, 3), 2);
+        y.swap(0);
+        due("once more from the front", y.of(1, 3), 1);
+        y.swap(0);
+        due("and to the front", y.of(1, 3), 2);
     }
 
     private static void greatestSoFar() {

@@ -2,6 +2,8 @@
 public final class LawEdgesTest {
     public static void main(String[] args) {
         Checks.edge("THE LAW is a TEXT by THE TAPE (at most 120 bytes)", LawEdgesTest::longestText);
+        Checks.edge("THE TAPE becomes THE LAW (no FAULT)", LawEdgesTest::lawStays);
+        Checks.edge("THE TAPE becomes THE LAW, whatever was on it before", LawEdgesTest::readAnew);
         Checks.edge("LINES, one or more, parted by ;", LawEdgesTest::lines);
         Checks.edge("LINE: E, or E ? E", LawEdgesTest::askedOnce);
         Checks.edge("E = A { | A }. A = B { & B }.", LawEdgesTest::oneOrMore);
@@ -71,6 +73,11 @@ public final class LawEdgesTest {
         right("a>b" + times("|a", 57) + "|99");
         fault("1" + times("+1", 59) + "+", 120);
         fault("1" + times("+1", 59) + "a", 119);
+        counts("-1" + times("+1", 59), true);
+        counts("-1" + times("+0", 58) + "+1", false);
+        counts("-1" + times("&1", 59), true);
+        counts("!1" + times("|0", 59), false);
+        counts("!0" + times("*1", 59), true);
         TallerAhead x = Checks.street(40, 20);
         Checks.feedAll(x, times("0+", 59) + "00");
         due("one byte more", x.feed('1'), -3);
@@ -84,6 +91,42 @@ public final class LawEdgesTest {
         Checks.feedAll(z, times("0?1;", 29) + "0001");
         due("thirty lines", z.law(), 1);
         due("the last one's worth", z.disquiet(0), 1);
+    }
+
+    private static void lawStays() {
+        TallerAhead x = Checks.street(40, 20, 30);
+        Checks.tell(x, "a<b");
+        for (String text : new String[] {"", "x", ";", "1x", "1;", "1>", "(1", "1?", "12345", "1?1?", "1;1;x"}) {
+            due("law " + text, Checks.tell(x, text) <= -100 ? 1 : 0, 1);
+            due("the law stays behind " + text, x.disquiet(0), 1);
+        }
+        Checks.tell(x, "1");
+        due("a new law", x.disquiet(0), 3);
+        TallerAhead y = Checks.street(40, 20, 30);
+        Checks.tell(y, "x");
+        Checks.tell(y, "0>");
+        due("none stays none", y.disquiet(0), 2);
+    }
+
+    /** What a text left open is closed with it. */
+    private static void readAnew() {
+        String[] left = {"((((((", "!!!!!!", "------", "5*(", "0&(", "5*", "0&", "1?", "1?1?", "0?0;0?", "(a)", "1;", "0*(a+(b", "1*1*x", ""};
+        String[][] behind = {
+            {"((((((1))))))", "1"}, {"!!!!!!1", "1"}, {"1?1", "1"}, {"1", "1"}, {"2-1", "1"}, {"0?1;1", "1"}, {"0", "0"}, {"1)", "-101"},
+            {"(1)", "1"}, {"1?1?1", "-103"}, {"?1", "-100"}, {"1=1", "1"}, {"1=1=1", "-103"}, {"+1", "-100"}, {")", "-100"},
+        };
+        for (String one : left) {
+            for (String[] other : behind) {
+                TallerAhead x = Checks.street(20, 40);
+                Checks.tell(x, one);
+                int answer = Checks.tell(x, other[0]);
+                int worth = Integer.parseInt(other[1]);
+                due(other[0] + " behind " + one, answer, worth < 0 ? worth : 1);
+                if (worth >= 0) {
+                    due("worth of " + other[0] + " behind " + one, x.disquiet(0), worth);
+                }
+            }
+        }
     }
 
     private static void lines() {
@@ -437,6 +480,11 @@ public final class LawEdgesTest {
         counts("8192*8192*32?1;0", true);
         counts("a>b?1", true);
         counts("a<b?0;1", true);
+        counts("0|0?1;0|0", false);
+        counts("0|1?1;0", true);
+        counts("0|0?0;0|1", true);
+        counts("0|0;1", false);
+        counts("1?0|0;1", false);
         counts("1?a-b-20;1", false);
         counts("a-b-20?1;0", false);
     }

@@ -146,7 +146,12 @@ public final class PeopleEdgesTest {
             due("n " + n, x.people(0, 0, n), -1);
         }
         due("nobody came", x.count(0), 0);
-        due("one", x.people(0, 9, 1), 1);
+        due("one of ten", x.people(0, 0, 1), 1);
+        due("one alone came", x.count(0), 1);
+        due("two of nine", x.people(0, 1, 2), 2);
+        due("three came", x.count(0), 3);
+        due("the last one", x.people(0, 9, 1), 1);
+        Checks.queueIs(x, 0, 1, 2, 3);
         TallerAhead y = new TallerAhead();
         Checks.fill(y, 5, 10, 20, 30, 40, 50, 60, 70, 80, 90, 95);
         due("nine", y.people(5, 0, 9), 9);
@@ -450,5 +455,13 @@ public final class PeopleEdgesTest {
         due("nobody", y.disquiet(2), 0);
         TallerAhead z = Checks.street(10, 20, 40, 30);
         due("the last two, three minutes", z.disquiet(2), 3);
+        Checks.tell(x, "g=8");
+        due("the first for the last, one minute", x.disquiet(2), 1);
+        Checks.tell(x, "p=7&q=8");
+        due("the last two, eight minutes", x.disquiet(2), 8);
+        Checks.tell(x, "1");
+        due("by the law", x.disquiet(2), 120);
+        Checks.tell(x, "g=1");
+        due("each for the next one", x.disquiet(2), 36);
     }
 }

@@ -220,6 +220,15 @@ public final class ThoughtEdgesTest {
         due("by 1, by law", x.growth(1), 1);
         Checks.tell(x, "1");
         due("by none", x.growth(1), -2);
+        due("nobody is ahead of the front", x.growth(0), 0);
+        Checks.tell(x, "g=2&p=1&b<80");
+        due("two PLACES behind the one who counts", x.growth(3), 11);
+        due("one PLACE behind him", x.growth(2), 0);
+        due("three PLACES behind him", x.growth(4), 0);
+        Checks.tell(x, "q=2&g=1&a<b+5|q=2&p=0&g=2&b<20");
+        due("both ahead are asked", x.growth(2), -2);
+        Checks.tell(x, "q=2&g=1&a>b+5|q=2&p=0&g=2&b<20");
+        due("both ahead are asked", x.growth(2), 11);
     }
 
     private static void meetsOthers() {
