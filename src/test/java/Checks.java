@@ -11,7 +11,7 @@ final class Checks {
     private Checks() {
     }
 
-    /** A test of its own for one sentence of the document (the test's name for it stands ahead). */
+    /** A test of its own for one sentence, named by it: the document's words, shortened where they are many. */
     static void edge(String told, Runnable test) {
         sentence = told;
         done++;
