@@ -725,8 +725,14 @@ public final class TallerAhead {
 
         int worth(int a, int b, int g, int p, int q) {
             top = 0;
+            boolean isPassed = false;
             for (int k = 0; k < length; k++) {
                 int step = steps[k];
+                if (isPassed) {
+                    // What is left of a LINE whose first E is 0.
+                    isPassed = step != -';';
+                    continue;
+                }
                 if (step >= 0) {
                     push(step);
                     continue;
@@ -735,9 +741,7 @@ public final class TallerAhead {
                     case ';':
                         return pop();
                     case '?':
-                        if (pop() == 0) {
-                            k = endOfLine(k);
-                        }
+                        isPassed = pop() == 0;
                         break;
                     case '!':
                         push(pop() == 0 ? 1 : 0);
@@ -755,14 +759,6 @@ public final class TallerAhead {
                 }
             }
             return 0;
-        }
-
-        private int endOfLine(int from) {
-            int k = from;
-            while (k < length && steps[k] != -';') {
-                k++;
-            }
-            return k;
         }
 
         private void push(int value) {
